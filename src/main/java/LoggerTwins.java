@@ -47,24 +47,24 @@ public final class LoggerTwins {
     public int record(int r, int kind, int n) {
         if (!isRecord(r) || !isWithin(kind, 0, EMPTY)) return BAD;
         if (kind == EMPTY) {
-            records.hold(r, null, false);
+            records.hold(r, null);
             return 1;
         }
         if (kind == SINGLE) {
             // No call reads the number of a single tag, so n is not kept.
-            records.hold(r, null, true);
+            records.holdSingle(r);
             return 1;
         }
         if (n > MOST_CELLS) return BAD;
         if (n < 0) return answer(BAD_SIZE);
-        records.hold(r, new Cells(kind, n), false);
+        records.hold(r, new Cells(kind, n));
         return 1;
     }
 
     /** Promise 3. */
     public int share(int r, int s) {
         if (!isRecord(r) || !isRecord(s)) return BAD;
-        records.hold(r, records.arrays[s], records.singles[s]);
+        records.holdSame(r, s);
         return 1;
     }
 
@@ -240,7 +240,7 @@ public final class LoggerTwins {
         if (comparison == null) return STATE;
         if (comparison.mergedLength() > MOST_CELLS) return FULL;
         Cells merged = comparison.merged(mode);
-        records.hold(r, merged, false);
+        records.hold(r, merged);
         return merged.length;
     }
 
@@ -310,7 +310,7 @@ public final class LoggerTwins {
                 return -20 - i;
             }
         }
-        records.hold(r, elected, false);
+        records.hold(r, elected);
         return split;
     }
 
@@ -356,7 +356,7 @@ public final class LoggerTwins {
         int done = application.run();
         lastFault = application.fault;
         if (lastFault != NO_FAULT) return -20 - done;
-        records.hold(r, application.made, false);
+        records.hold(r, application.made);
         return application.made.length;
     }
 
@@ -371,7 +371,7 @@ public final class LoggerTwins {
         if (fault != NO_FAULT) return answer(fault);
         int length = loggedLength(source.length, seed);
         if (length > MOST_CELLS) return FULL;
-        records.hold(r, logged(source, new Cells(kind, length), seed), false);
+        records.hold(r, logged(source, new Cells(kind, length), seed));
         return length;
     }
 
@@ -388,7 +388,7 @@ public final class LoggerTwins {
             if (sort == LONG && u / 16 % 2 == 1) drawn.setWhole(i, LONG, v * 1000000007L);
             else drawn.setValue(i, sort, v);
         }
-        records.hold(r, drawn, false);
+        records.hold(r, drawn);
         return 1;
     }
 
@@ -574,16 +574,14 @@ public final class LoggerTwins {
                 scaled = scaled * 2.0;
                 exponent--;
             }
-            double unit = (double) (1L << width);
-            // Below the lowest exponent there is no hidden leading one, and the exponent's field is 0.
-            if (scaled < 1.0) return (long) (scaled * unit);
-            return ((long) (exponent - lowest + 1) << width) + (long) ((scaled - 1.0) * unit);
+            // A leading one adds itself to the exponent's field; what is too small to have one leaves 0 there.
+            return ((long) (exponent - lowest) << width) + (long) (scaled * (double) (1L << width));
         }
     }
 
     /**
      * A row of cells. The sorts float and double stand in reals (a float is exact there), all others in
-     * wholes, as their amount; the place not used is 0, so that equal cells have equal places.
+     * wholes, as their amount; the place not used is 0.
      */
     private static final class Cells {
         final int kind;
@@ -762,9 +760,20 @@ public final class LoggerTwins {
         final Cells[] arrays = new Cells[RECORDS];
         final boolean[] singles = new boolean[RECORDS];
 
-        void hold(int r, Cells array, boolean single) {
+        /** Without an array (null) the record is empty. */
+        void hold(int r, Cells array) {
             arrays[r] = array;
-            singles[r] = single;
+            singles[r] = false;
+        }
+
+        void holdSingle(int r) {
+            arrays[r] = null;
+            singles[r] = true;
+        }
+
+        void holdSame(int r, int s) {
+            arrays[r] = arrays[s];
+            singles[r] = singles[s];
         }
 
         int faultWithoutArray(int r) {
@@ -784,10 +793,9 @@ public final class LoggerTwins {
         Records copy() {
             Records made = new Records();
             for (int r = 0; r < RECORDS; r++) {
-                Cells array = arrays[r];
-                if (array == null) made.hold(r, null, singles[r]);
-                else if (isFirstHolder(r)) made.hold(r, array.copy(), false);
-                else made.hold(r, made.arrays[leastHolder(array)], false);
+                if (singles[r]) made.holdSingle(r);
+                else if (isFirstHolder(r)) made.hold(r, arrays[r].copy());
+                else if (arrays[r] != null) made.holdSame(r, leastHolder(arrays[r]));
             }
             return made;
         }

@@ -43,6 +43,7 @@ public final class CellsTest {
         DUE.begin("4 kind");
         DUE.calls("record(6, 8, 1) = 1; share(3, 6) = 1; share(7, 6) = 1; kind(7, 1) = 3; kind(6, 1) = 3; kind(3, 1) = 3");
         DUE.calls("record(0, 8, 1) = 1; kind(0, 1) = 0; kind(7, 1) = 3; record(3, 12, 0) = 1; kind(7, 1) = 6; kind(7, 0) = 8");
+        DUE.calls("record(6, 12, 0) = 1; kind(7, 1) = 7; kind(6, 1) = -4");
         DUE.calls("kind(1, 1) = -4; kind(1, 0) = 12; record(1, 11, 0) = 1; kind(1, 1) = -4; kind(1, 0) = 11");
         DUE.calls("kind(8, 0) = -1; kind(-1, 1) = -1; kind(0, 2) = -1; kind(0, -1) = -1; kind(1, 2) = -1");
     }
@@ -132,7 +133,8 @@ public final class CellsTest {
         DUE.begin("11 fill");
         DUE.calls("record(0, 5, 4) = 1; fill(0, 1, 2, 3, -2) = 2; torn() = 0");
         DUE.cells(0, "5:0 5:-2 5:-2 5:0");
-        DUE.calls("fill(0, 3, 20, 1, 7) = 1; torn() = 3");
+        DUE.calls("fill(0, 3, 20, 1, 7) = 1; torn() = 3; record(3, 7, 2) = 1; fill(3, 0, 1, 7, 8) = 1; fill(3, 1, 1, 7, 16) = 1; fill(3, 1, 2, 0, 16) = 0; torn() = 5");
+        DUE.cells(3, "7:" + Double.doubleToLongBits(1.0) + " 7:" + Double.doubleToLongBits(2.0));
         DUE.cells(0, "5:0 5:-2 5:-2 5:7");
         DUE.calls("fill(0, 0, 3, 6, 7) = 0; torn() = 5; fill(0, 4, 1, 6, 7) = 0; torn() = 3; fill(0, 0, 0, 6, 7) = 0; torn() = 0");
         DUE.calls("fill(0, -1, 2, 4, 7) = 0; torn() = 3; fill(0, " + MOST + ", 20, 4, 7) = 0; fill(0, " + LEAST + ", 20, 4, 7) = 0; torn() = 3");
@@ -177,6 +179,7 @@ public final class CellsTest {
         DUE.begin("14 sum");
         DUE.calls("record(0, 1, 3) = 1; fill(0, 0, 3, 1, 100) = 3; sum(0, 1) = 1; got() = 300; sum(0, 3) = 1; got() = 300; sum(0, 2) = -15");
         DUE.calls("sum(0, 6) = 1; got() = " + Float.floatToIntBits(300f) + "; sum(0, 7) = 1; got() = " + Double.doubleToLongBits(300.0));
+        DUE.calls("record(0, 4, 1) = 1; put(0, 0, 4, 16777217) = 1; sum(0, 7) = 1; got() = " + Double.doubleToLongBits(16777217.0));
         DUE.calls("record(0, 4, 3) = 1; put(0, 0, 4, 16777216) = 1; put(0, 1, 4, 1) = 1; put(0, 2, 4, 1) = 1");
         DUE.calls("sum(0, 6) = 1; got() = " + Float.floatToIntBits(16777216f) + "; sum(0, 4) = 1; got() = 16777218");
         DUE.calls("sum(0, 7) = 1; got() = " + Double.doubleToLongBits(16777218.0) + "; fill(0, 0, 3, 4, " + MOST + ") = 3; sum(0, 4) = 1; got() = " + 3L * MOST);
