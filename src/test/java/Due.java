@@ -1,23 +1,32 @@
-import java.lang.reflect.InvocationTargetException;
-import java.lang.reflect.Method;
-import java.util.Arrays;
-
 /** Runs calls that are written as in the document's examples, and tells each answer that is not as due. */
 final class Due {
     private final String subject;
+    private final Document document;
     private int answers;
     private int wrong;
     private String part = "";
-    private LoggerTwins object = new LoggerTwins();
+    private Twin twin = new Twin();
 
     Due(String subject) {
+        this(subject, null);
+    }
+
+    /** For tests that quote the document. */
+    Due(String subject, Document document) {
         this.subject = subject;
+        this.document = document;
     }
 
     /** What follows is about this part, on a new object. */
     void begin(String name) {
         part = name;
-        object = new LoggerTwins();
+        twin = new Twin();
+    }
+
+    /** What follows, on a new object, would fail if these words of the document were broken. */
+    void quote(int section, String words) {
+        begin(document.title(section) + ", \"" + words + "\"");
+        holds("these words stand in the document", document.quote(section, words));
     }
 
     void is(String what, long got, long want) {
@@ -36,45 +45,49 @@ final class Due {
         for (String row : run.split(";")) {
             String[] sides = row.split("=");
             String call = sides[0].trim();
-            is(call, answerOf(call), Long.parseLong(sides[1].trim()));
+            is(call, twin.answer(call), Twin.number(sides[1].trim()));
+        }
+    }
+
+    /** Calls that answer so and change nothing that any other call could tell. */
+    void refused(String run) {
+        for (String row : run.split(";")) {
+            String before = twin.again().state();
+            calls(row);
+            String after = twin.again().state();
+            holds(row.trim() + " changes nothing; before: " + before + " after: " + after, before.equals(after));
         }
     }
 
     /** Makes an array of a kind in a record, its cells such as "4:10 9:0": what lay takes for each. */
     void makes(int r, int kind, String cells) {
         String[] all = cells.isEmpty() ? new String[0] : cells.split(" ");
-        is("record(" + r + ", " + kind + ", " + all.length + ")", object.record(r, kind, all.length), 1);
-        for (int i = 0; i < all.length; i++) {
-            String[] sides = all[i].split(":");
-            int laid = object.lay(r, i, Integer.parseInt(sides[0]), Integer.parseInt(sides[1]));
-            is("lay(" + r + ", " + i + ", " + all[i] + ")", laid, 1);
-        }
+        calls("record(" + r + ", " + kind + ", " + all.length + ") = 1");
+        for (int i = 0; i < all.length; i++) calls("lay(" + r + ", " + i + ", " + all[i].replace(":", ", ") + ") = 1");
     }
 
-    /** The cells of a record, such as "4:10 9:0": sort and amount of each. */
+    /** The cells of a record, such as "4:10 6:0.5f 9:0": sort and amount of each. */
     void cells(int r, String cells) {
         String[] all = cells.isEmpty() ? new String[0] : cells.split(" ");
-        is("size(" + r + ")", object.size(r), all.length);
+        calls("size(" + r + ") = " + all.length);
         for (int i = 0; i < all.length; i++) {
             String[] sides = all[i].split(":");
-            is("box(" + r + ", " + i + ")", object.box(r, i), Long.parseLong(sides[0]));
-            is("got() of cell " + i + " of " + r, object.got(), Long.parseLong(sides[1]));
+            calls("box(" + r + ", " + i + ") = " + sides[0] + "; got() = " + sides[1]);
         }
     }
 
     long answerOf(String call) {
-        String name = call.substring(0, call.indexOf('('));
-        String inner = call.substring(call.indexOf('(') + 1, call.indexOf(')')).trim();
-        Object[] arguments = inner.isEmpty() ? new Object[0]
-            : Arrays.stream(inner.split(",")).map(a -> Integer.valueOf(a.trim())).toArray();
-        Class<?>[] types = new Class<?>[arguments.length];
-        Arrays.fill(types, int.class);
-        try {
-            Method method = LoggerTwins.class.getMethod(name, types);
-            return ((Number) method.invoke(object, arguments)).longValue();
-        } catch (NoSuchMethodException | IllegalAccessException | InvocationTargetException e) {
-            throw new AssertionError(part + ": " + call, e);
+        return twin.answer(call);
+    }
+
+    /** For tests that quote the document: no word of these sections is left unquoted. */
+    void endQuoting(int first, int last) {
+        for (int section = first; section <= last; section++) {
+            begin(document.title(section));
+            String left = document.unquoted(section);
+            holds("every word is quoted by a test, but not: " + left, left.isEmpty());
         }
+        end();
     }
 
     void end() {
