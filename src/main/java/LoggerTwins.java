@@ -8,7 +8,7 @@ public final class LoggerTwins {
     private static final int RECORDS = 8, PATCHES = 4, IMAGES = 2, MOST_CELLS = 20;
 
     private static final int BOOLEAN = 0, BYTE = 1, CHAR = 2, SHORT = 3, INT = 4, LONG = 5, FLOAT = 6, DOUBLE = 7;
-    private static final int TAG = 8, ANY = 9, NULL = 9, TEXT = 10, SINGLE = 11, EMPTY = 12;
+    private static final int ANY = 9, NULL = 9, TEXT = 10, SINGLE = 11, EMPTY = 12;
     private static final int TEXTS = 5, NO_JOIN = -1;
 
     private static final int NO_FAULT = 0, IS_NULL = 1, NO_ARRAY = 2, NO_CELL = 3, OBJECTS = 4, NO_FIT = 5;

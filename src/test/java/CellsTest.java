@@ -2,9 +2,9 @@ import java.io.IOException;
 
 /** Promises 1 to 14: records and cells. Each test quotes the words that it would find broken. */
 public final class CellsTest {
-    private static final String[] NEW_CELLS = {"0:0", "1:0", "2:0", "3:0", "4:0", "5:0", "6:0", "7:0", "9:0", "9:0", "9:0"};
+    static final String[] NEW_CELLS = {"0:0", "1:0", "2:0", "3:0", "4:0", "5:0", "6:0", "7:0", "9:0", "9:0", "9:0"};
     /** The kinds from 0 to 7 that a number of each sort fits. */
-    private static final String[] FITS = {"0", "1 3 4 5 6 7", "2 4 5 6 7", "3 4 5 6 7", "4 5 6 7", "5 6 7", "6 7", "7"};
+    static final String[] FITS = {"0", "1 3 4 5 6 7", "2 4 5 6 7", "3 4 5 6 7", "4 5 6 7", "5 6 7", "6 7", "7"};
 
     private final Due due;
 

@@ -3,7 +3,6 @@ import java.io.IOException;
 /** The document's "Description", up to its examples. Each test quotes the words that it would find broken. */
 public final class DescriptionTest {
     private static final int HERE = Document.DESCRIPTION;
-    private static final String[] NEW_CELLS = {"0:0", "1:0", "2:0", "3:0", "4:0", "5:0", "6:0", "7:0", "9:0", "9:0", "9:0"};
 
     private final Due due;
 
@@ -32,7 +31,7 @@ public final class DescriptionTest {
         due.quote(HERE, "The cells of a new array are false, 0 or null.");
         for (int kind = 0; kind <= 10; kind++) {
             due.calls("record(0, " + kind + ", 1) = 1");
-            due.cells(0, NEW_CELLS[kind]);
+            due.cells(0, CellsTest.NEW_CELLS[kind]);
         }
     }
 
@@ -252,6 +251,9 @@ public final class DescriptionTest {
         likeness("3:-32768", "3:32767", 2);
         likeness("5:MOST", "5:2147483548", 1);
         likeness("5:MOST", "5:2147483547", 2);
+        due.makes(0, 5, "5:MOST");
+        due.makes(1, 5, "5:LEAST 5:-2147483647");
+        due.calls("log(0, 0, 5, " + LoggersTest.seedFor(2) + ") = 1; like(0, 0, 1, 0) = 2; like(1, 0, 0, 0) = 2; like(0, 0, 1, 1) = 2; box(0, 0) = 5; got() = 2147483648");
         due.quote(HERE, "for 6 and 7 the difference of both as doubles).");
         due.makes(0, 6, "6:-1");
         due.makes(1, 6, "6:0");
@@ -428,12 +430,20 @@ public final class DescriptionTest {
         due.calls("record(1, 6, 0) = 1; compare(0, 1) = 2; join(2, 0) = 1");
         due.cells(2, "6:16777216f");
         due.quote(HERE, "unless it is a duplicate, which is left out.");
-        due.makes(0, 4, "4:1 4:1 4:1");
+        due.makes(0, 4, "4:1 4:1 4:1 4:7");
         due.makes(1, 4, "4:1 4:2 4:2");
         due.makes(2, 4, "");
-        due.calls("compare(0, 2) = 4; result(9) = 1; join(3, 0) = 1; compare(2, 1) = 5; result(9) = 2; join(4, 0) = 2");
-        due.cells(3, "4:1");
-        due.cells(4, "4:1 4:2");
+        for (int mode = 0; mode < 3; mode++) {
+            due.calls("compare(0, 2) = 6; result(9) = 2; join(3, " + mode + ") = 2; compare(2, 1) = 5; result(9) = 2; join(4, " + mode + ") = 2");
+            due.cells(3, "4:1 4:7");
+            due.cells(4, "4:1 4:2");
+        }
+        due.makes(5, 4, "4:1 4:2 4:5");
+        due.calls("compare(1, 5) = 3; result(7) = 0; put(5, 2, 4, 2) = 1; record(6, 4, 2) = 1; put(6, 0, 4, 1) = 1; put(6, 1, 4, 2) = 1; compare(1, 6) = 1; result(7) = 1");
+        for (int mode = 0; mode < 3; mode++) {
+            due.calls("join(4, " + mode + ") = 2");
+            due.cells(4, "4:1 4:2");
+        }
         due.calls("rate(3, 2) = 1; compare(2, 1) = 6; result(9) = 2; compare(1, 1) = 0; result(9) = 3; join(4, 0) = 3");
         due.cells(4, "4:1 4:2 4:2");
     }
@@ -509,6 +519,8 @@ public final class DescriptionTest {
         for (int p = 0; p < 4; p++) due.refused("turn(" + p + ") = -2; act(" + p + ", 0, 0) = -2; apply(" + p + ", 0) = -2");
         due.refused("turn(4) = -1; turn(-1) = -1; act(4, 0, 0) = -1; act(-1, 0, 0) = -1; apply(4, 0) = -1; apply(-1, 0) = -1");
         due.calls("count(4) = 0; record(0, 4, 1) = 1; compare(0, 0) = 0; patch(0) = 0; patch(1) = 0; patch(2) = 0; patch(3) = 0; patch(4) = -1; patch(-1) = -1; count(4) = 4");
+        for (int p = 0; p < 4; p++) due.calls("record(1, 8, " + p + ") = 1; compare(1, 1) = 0; patch(" + p + ") = 0");
+        for (int p = 0; p < 4; p++) due.calls("turn(" + p + ") = " + p);
         due.quote(HERE, "A patch is a sequence of acts, one for each step of a comparison: 0 keep (a pair of cells that are alike), 1 put (any other pair),");
         due.makes(0, 4, "4:1 4:2 4:3");
         due.makes(1, 7, "7:8 7:17 7:800");

@@ -28,7 +28,7 @@ public final class LoggersTest {
     }
 
     /** The least seed from 0 by which u % 8 is so for the first cells. */
-    private static int seedFor(int... wanted) {
+    static int seedFor(int... wanted) {
         int seed = 0;
         while (!draws(seed, wanted)) seed++;
         return seed;
@@ -128,6 +128,9 @@ public final class LoggersTest {
         due.cells(1, "6:16777216f 6:-3f 6:-3f");
         due.calls("log(1, 0, 7, " + seedFor(TWICE, 4) + ") = 3; kind(1, 0) = 7");
         due.cells(1, "7:16777217d 7:16777217d 7:-3d");
+        due.makes(0, 0, "0:1 0:0 0:1");
+        due.calls("log(1, 0, 0, " + seedFor(3, TWICE, 4) + ") = 4; kind(1, 0) = 0");
+        due.cells(1, "0:1 0:0 0:0 0:1");
         falsified(6, "6:3", 7, "7:1.375d");
         falsified(6, "6:134217728", 7, "7:16777216d");
         falsified(4, "4:16777217", 6, "6:16777218f");
@@ -160,11 +163,10 @@ public final class LoggersTest {
         due.makes(1, 9, "4:1");
         due.refused("log(0, 1, 4, 1) = -14");
         due.quote(28, "kind (if the kind of the array of s does not fit) of s");
-        String[] fits = {"0", "1 3 4 5 6 7", "2 4 5 6 7", "3 4 5 6 7", "4 5 6 7", "5 6 7", "6 7", "7"};
         int once = seedFor(4);
         for (int kind = 0; kind < 8; kind++) {
             due.calls("record(0, " + kind + ", 1) = 1");
-            for (int asked = 0; asked < 8; asked++) due.calls("log(1, 0, " + asked + ", " + once + ") = " + (fits[kind].contains("" + asked) ? 1 : -15));
+            for (int asked = 0; asked < 8; asked++) due.calls("log(1, 0, " + asked + ", " + once + ") = " + (CellsTest.FITS[kind].contains("" + asked) ? 1 : -15));
         }
         due.refused("log(1, 0, 6, 1) = -15");
         due.calls("record(0, 7, 0) = 1");
